@@ -167,7 +167,7 @@ public final class ShardRows {
         return latest.shardAt(test) != NONE && !results.has(test);
     }
 
-    private static boolean isNumber(int test) {
+    private static boolean isTestNumber(int test) {
         return test >= 0 && test < MOST_TESTS;
     }
 
@@ -438,7 +438,7 @@ public final class ShardRows {
         }
 
         int shardAt(int test) {
-            return isNumber(test) ? shardOf[test] : NONE;
+            return isTestNumber(test) ? shardOf[test] : NONE;
         }
 
         int longest() {
@@ -469,7 +469,7 @@ public final class ShardRows {
         }
 
         private void give(int test, int shard) {
-            if (!isNumber(test) || !hasShard(shard)) {
+            if (!isTestNumber(test) || !hasShard(shard)) {
                 return;
             }
             if (shardOf[test] != NONE && shardOf[test] != shard) {
@@ -496,11 +496,11 @@ public final class ShardRows {
         }
 
         boolean has(int test) {
-            return isNumber(test) && present[test];
+            return isTestNumber(test) && present[test];
         }
 
         boolean put(int test, int its) {
-            if (!isNumber(test) || present[test]) {
+            if (!isTestNumber(test) || present[test]) {
                 return false;
             }
             present[test] = true;
@@ -527,7 +527,7 @@ public final class ShardRows {
         }
 
         int triesOf(int test) {
-            return isNumber(test) ? tryCounts[test] : 0;
+            return isTestNumber(test) ? tryCounts[test] : 0;
         }
 
         private boolean isBad(int test) {

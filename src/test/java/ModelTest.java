@@ -10,7 +10,9 @@ import java.util.Random;
  */
 public final class ModelTest {
     private static final int NONE = -1;
-    private static final int CALLS = 512;
+    private static final int RUNS = 800;
+    // What an object answers after so many calls is free.
+    private static final int MOST_CALLS = 512;
     private static final int[] ODD = {-1, -2, 24, 25, 100001, Integer.MIN_VALUE, Integer.MAX_VALUE};
 
     /** What the document says, in its plainest form. */
@@ -310,6 +312,7 @@ public final class ModelTest {
     private final ShardRows rows;
     private final int mostTests;
     private final int mostTime;
+    private int calls = 0;
 
     private ModelTest(int run) {
         random = new Random(run);
@@ -321,14 +324,34 @@ public final class ModelTest {
     }
 
     public static void main(String[] args) {
-        for (int run = 0; run < 150; run++) {
+        for (int run = 0; run < RUNS; run++) {
             Check.part("run " + run);
             ModelTest test = new ModelTest(run);
-            for (int call = 0; call < CALLS; call++) {
+            test.fill();
+            while (test.calls < MOST_CALLS) {
                 test.step();
             }
         }
         Check.end();
+    }
+
+    private void due(String call, long got, long want) {
+        calls++;
+        if (calls <= MOST_CALLS) {
+            Check.due(call, got, want);
+        }
+    }
+
+    private void due(String call, boolean got, boolean want) {
+        due(call, got ? 1 : 0, want ? 1 : 0);
+    }
+
+    private void fill() {
+        int count = random.nextInt(mostTests + 1);
+        for (int i = 0; i < count; i++) {
+            int time = random.nextInt(mostTime + 1);
+            due("test(" + time + ")", rows.test(time), model.test(time));
+        }
     }
 
     private int below(int bound) {
@@ -348,9 +371,6 @@ public final class ModelTest {
         } else {
             ask();
         }
-        if (random.nextInt(60) == 0) {
-            compareAll();
-        }
     }
 
     private void change(int kind) {
@@ -359,22 +379,22 @@ public final class ModelTest {
         int time = random.nextInt(6) == 0 ? 0 : below(mostTime + 1);
         if (kind < 12) {
             if (model.times.size() < mostTests || mostTests == 24) {
-                Check.due("test(" + time + ")", rows.test(time), model.test(time));
+                due("test(" + time + ")", rows.test(time), model.test(time));
             }
         } else if (kind < 22) {
-            Check.due("time(" + a + ", " + time + ")", rows.time(a, time), model.time(a, time));
+            due("time(" + a + ", " + time + ")", rows.time(a, time), model.time(a, time));
         } else if (kind < 24) {
-            Check.due("join(" + a + ", " + b + ")", rows.join(a, b), model.join(a, b));
+            due("join(" + a + ", " + b + ")", rows.join(a, b), model.join(a, b));
         } else if (kind < 28) {
             int k = below(6);
-            Check.due("shards(" + k + ")", rows.shards(k), model.shards(k));
+            due("shards(" + k + ")", rows.shards(k), model.shards(k));
         } else if (kind < 33) {
-            Check.due("split()", rows.split(), model.split());
-            compareAll();
+            due("split()", rows.split(), model.split());
+            compareShards();
         } else {
             int s = below(4);
             long seed = random.nextLong();
-            Check.due("draw(" + s + ", " + seed + ")", rows.draw(s, seed), model.draw(s, seed));
+            due("draw(" + s + ", " + seed + ")", rows.draw(s, seed), model.draw(s, seed));
         }
     }
 
@@ -383,36 +403,38 @@ public final class ModelTest {
         int s = random.nextInt(4) == 0 ? below(4) : model.shard(t);
         int its = random.nextInt(3) == 0 ? random.nextInt() : 0;
         if (kind < 62) {
-            Check.due("result(" + t + ", " + s + ", " + its + ")", rows.result(t, s, its), model.result(t, s, its));
+            due("result(" + t + ", " + s + ", " + its + ")", rows.result(t, s, its), model.result(t, s, its));
         } else {
-            Check.due("again(" + t + ")", rows.again(t), model.again(t));
+            due("again(" + t + ")", rows.again(t), model.again(t));
         }
     }
 
     private void ask() {
-        int i = below(26);
-        Check.due("shard(" + i + ")", rows.shard(i), model.shard(i));
-        Check.due("sum(" + i + ")", rows.sum(i), model.sum(i));
-        Check.due("empty(" + i + ")", rows.empty(i), model.empty(i));
-        Check.due("drawn(" + i + ")", rows.drawn(i), Model.at(model.drawnNow, i));
-        Check.due("missing(" + i + ")", rows.missing(i), model.missing(i));
-        Check.due("tries(" + i + ")", rows.tries(i), model.tries(i));
-        Check.due("mean()", rows.mean(), model.mean());
-        Check.due("groups()", rows.groups(), model.allGroups().size());
-        Check.due("moved()", rows.moved(), model.movedNow);
-        Check.due("strange()", rows.strange(), model.strangeNow);
-        Check.due("verdict()", rows.verdict(), model.verdict());
+        compareAt(below(26));
+        due("mean()", rows.mean(), model.mean());
+        due("groups()", rows.groups(), model.allGroups().size());
+        due("moved()", rows.moved(), model.movedNow);
+        due("strange()", rows.strange(), model.strangeNow);
+        due("verdict()", rows.verdict(), model.verdict());
     }
 
-    private void compareAll() {
-        for (int i = -1; i < 25; i++) {
-            Check.due("shard(" + i + ")", rows.shard(i), model.shard(i));
-            Check.due("sum(" + i + ")", rows.sum(i), model.sum(i));
-            Check.due("empty(" + i + ")", rows.empty(i), model.empty(i));
-            Check.due("drawn(" + i + ")", rows.drawn(i), Model.at(model.drawnNow, i));
-            Check.due("missing(" + i + ")", rows.missing(i), model.missing(i));
-            Check.due("tries(" + i + ")", rows.tries(i), model.tries(i));
+    private void compareAt(int i) {
+        due("shard(" + i + ")", rows.shard(i), model.shard(i));
+        due("sum(" + i + ")", rows.sum(i), model.sum(i));
+        due("empty(" + i + ")", rows.empty(i), model.empty(i));
+        due("drawn(" + i + ")", rows.drawn(i), Model.at(model.drawnNow, i));
+        due("missing(" + i + ")", rows.missing(i), model.missing(i));
+        due("tries(" + i + ")", rows.tries(i), model.tries(i));
+    }
+
+    private void compareShards() {
+        for (int test = 0; test < model.times.size(); test++) {
+            due("shard(" + test + ")", rows.shard(test), model.shard(test));
         }
-        Check.due("moved()", rows.moved(), model.movedNow);
+        for (int shard = 0; shard < 5; shard++) {
+            due("sum(" + shard + ")", rows.sum(shard), model.sum(shard));
+            due("empty(" + shard + ")", rows.empty(shard), model.empty(shard));
+        }
+        due("moved()", rows.moved(), model.movedNow);
     }
 }

@@ -227,7 +227,7 @@ public final class PromisesTest {
 
     private static void splitKeepsPlaces() {
         Check.part("promise 8, few, again");
-        // All on shard 0 but the last two; equal TIMES then make any halves as short.
+        // All on SHARD 0 but the last; equal TIMES then make any halves as short.
         ShardRows x = with(2, 1, 1, 8, 10);
         Check.due("split()", x.split(), 10);
         dueShards(x, 0, 0, 0, 1);
@@ -284,6 +284,12 @@ public final class PromisesTest {
         Check.due("split()", x.split(), 45);
         dueShards(x, 0, 1, 0, 1, 0, 1, 0, 1, 0);
         Check.due("moved()", x.moved(), 4);
+        // SHARD 2 was the last of three and is the first that two do not have.
+        x = split(3, 9, 9, 9, 9, 9, 9, 9, 9, 9, 9);
+        x.shards(2);
+        x.time(2, 10);
+        Check.due("split()", x.split(), 46);
+        dueShards(x, 1, 1, 0, 0, 1, 0, 1, 0, 1, 0);
     }
 
     private static void splitAtTheBorder() {
@@ -396,16 +402,14 @@ public final class PromisesTest {
             Check.due("empty(" + wrong + ")", x.empty(wrong), NONE);
         }
         // SHARD 0 is left empty where that moves the fewest.
+        x = split(2, 8, 4, 4);
+        dueShards(x, 0, 1, 1);
         x.join(0, 1);
-        x.split();
-        Check.due("empty(0)", x.empty(0), 1);
-        x = split(2, 1, 8, 8);
-        dueShards(x, 0, 0, 1);
-        x.join(0, 2);
         x.join(1, 2);
         x.split();
-        dueShards(x, 0, 0, 0);
-        Check.due("empty(0)", x.empty(0), 1);
+        dueShards(x, 1, 1, 1);
+        Check.due("empty(0)", x.empty(0), 0);
+        Check.due("empty(1)", x.empty(1), NONE);
     }
 
     /** DRAWN by the document's words, in whole numbers without a bound. */
