@@ -1,12 +1,11 @@
-import java.math.BigInteger;
 import java.util.ArrayList;
 import java.util.List;
 
-/** For each promise of the document: ordinary inputs, the edges that it names, wrong inputs. */
+/** For each promise of the document: ordinary inputs and some wrong ones; the edges have tests of their own. */
 public final class PromisesTest {
     private static final int NONE = ShardRows.NONE;
-    private static final int LOW = Integer.MIN_VALUE;
-    private static final int HIGH = Integer.MAX_VALUE;
+    private static final int LOW = Rows.LOW;
+    private static final int HIGH = Rows.HIGH;
 
     public static void main(String[] args) {
         newObject();
@@ -19,8 +18,6 @@ public final class PromisesTest {
         splitOfFew();
         splitKeepsPlaces();
         splitOfMany();
-        splitAtTheBorder();
-        splitForgetsResults();
         shard();
         sum();
         moved();
@@ -34,34 +31,6 @@ public final class PromisesTest {
         verdict();
         tries();
         Check.end();
-    }
-
-    private static ShardRows with(int k, int... times) {
-        ShardRows x = new ShardRows(k);
-        for (int time : times) {
-            x.test(time);
-        }
-        return x;
-    }
-
-    private static ShardRows split(int k, int... times) {
-        ShardRows x = with(k, times);
-        x.split();
-        return x;
-    }
-
-    private static void dueShards(ShardRows x, int... want) {
-        for (int i = 0; i < want.length; i++) {
-            Check.due("shard(" + i + ")", x.shard(i), want[i]);
-        }
-    }
-
-    private static int countShards(ShardRows x) {
-        int n = 0;
-        while (n < 10 && x.sum(n) != NONE) {
-            n++;
-        }
-        return n;
     }
 
     private static void newObject() {
@@ -79,7 +48,7 @@ public final class PromisesTest {
             Check.due("missing(0)", x.missing(0), NONE);
             Check.due("drawn(0)", x.drawn(0), NONE);
             Check.due("split()", x.split(), 0);
-            Check.due("shards of ShardRows(" + d[0] + ")", countShards(x), d[1]);
+            Check.due("shards of ShardRows(" + d[0] + ")", Rows.countShards(x), d[1]);
             Check.due("test(0)", x.test(0), 0);
         }
     }
@@ -105,7 +74,7 @@ public final class PromisesTest {
 
     private static void time() {
         Check.part("promise 3");
-        ShardRows x = with(1, 5, 9);
+        ShardRows x = Rows.with(1, 5, 9);
         Check.due("time(0, 7)", x.time(0, 7), true);
         Check.due("mean()", x.mean(), 8);
         Check.due("time(0, 7) once more", x.time(0, 7), true);
@@ -123,7 +92,7 @@ public final class PromisesTest {
 
     private static void join() {
         Check.part("promise 4");
-        ShardRows x = with(4, 1, 1, 1, 1, 1, 1);
+        ShardRows x = Rows.with(4, 1, 1, 1, 1, 1, 1);
         Check.due("join(0, 0)", x.join(0, 0), false);
         int[][] wrong = {{0, 6}, {6, 0}, {-1, 0}, {0, -1}, {24, 0}, {0, 24}, {LOW, HIGH}, {6, 6}, {-1, -1}};
         for (int[] w : wrong) {
@@ -137,44 +106,44 @@ public final class PromisesTest {
         Check.due("join(1, 3), by way of others", x.join(1, 3), false);
         Check.due("groups()", x.groups(), 3);
         Check.due("split()", x.split(), 4);
-        dueShards(x, 0, 1, 0, 1, 1, 1);
+        Rows.dueShards(x, 0, 1, 0, 1, 1, 1);
         x.join(0, 1);
-        dueShards(x, 0, 1, 0, 1, 1, 1);
+        Rows.dueShards(x, 0, 1, 0, 1, 1, 1);
     }
 
     private static void shards() {
         Check.part("promise 5");
-        ShardRows x = split(2, 4, 4, 4);
+        ShardRows x = Rows.split(2, 4, 4, 4);
         for (int wrong : new int[] {0, 5, -1, LOW, HIGH}) {
             Check.due("shards(" + wrong + ")", x.shards(wrong), false);
         }
         x.split();
-        Check.due("shards after wrong ones", countShards(x), 2);
+        Check.due("shards after wrong ones", Rows.countShards(x), 2);
         Check.due("shards(3)", x.shards(3), true);
-        Check.due("shards before the next split", countShards(x), 2);
+        Check.due("shards before the next split", Rows.countShards(x), 2);
         Check.due("result(0, 2, 0)", x.result(0, 2, 0), -1);
         Check.due("draw(2, 1)", x.draw(2, 1), NONE);
         Check.due("empty(0)", x.empty(0), NONE);
         Check.due("split()", x.split(), 4);
-        Check.due("shards after the next split", countShards(x), 3);
+        Check.due("shards after the next split", Rows.countShards(x), 3);
         Check.due("shards(1)", x.shards(1), true);
         Check.due("shards(1) once more", x.shards(1), true);
         Check.due("sum(2) before the next split", x.sum(2), 4);
         Check.due("split()", x.split(), 12);
         Check.due("shards(4)", x.shards(4), true);
         x.split();
-        Check.due("shards", countShards(x), 4);
+        Check.due("shards", Rows.countShards(x), 4);
     }
 
     private static void mean() {
         Check.part("promise 6");
-        Check.due("mean() of none", with(1).mean(), 1);
-        Check.due("mean() of none with TIMES", with(1, 0, 0).mean(), 1);
-        Check.due("mean() rounded up", with(1, 1, 2, 0).mean(), 2);
-        Check.due("mean() rounded up a little", with(1, 1, 1, 2).mean(), 2);
-        Check.due("mean() of a whole one", with(1, 3, 0, 5).mean(), 4);
-        Check.due("mean() of one", with(1, 100000).mean(), 100000);
-        ShardRows x = with(1);
+        Check.due("mean() of none", Rows.with(1).mean(), 1);
+        Check.due("mean() of none with TIMES", Rows.with(1, 0, 0).mean(), 1);
+        Check.due("mean() rounded up", Rows.with(1, 1, 2, 0).mean(), 2);
+        Check.due("mean() rounded up a little", Rows.with(1, 1, 1, 2).mean(), 2);
+        Check.due("mean() of a whole one", Rows.with(1, 3, 0, 5).mean(), 4);
+        Check.due("mean() of one", Rows.with(1, 100000).mean(), 100000);
+        ShardRows x = Rows.with(1);
         for (int i = 0; i < 24; i++) {
             x.test(i == 0 ? 99999 : 100000);
         }
@@ -187,7 +156,7 @@ public final class PromisesTest {
 
     private static void groups() {
         Check.part("promise 7");
-        ShardRows x = with(2, 1, 1, 1);
+        ShardRows x = Rows.with(2, 1, 1, 1);
         Check.due("groups()", x.groups(), 3);
         x.split();
         x.join(2, 0);
@@ -200,139 +169,92 @@ public final class PromisesTest {
 
     private static void splitOfFew() {
         Check.part("promise 8, few");
-        Check.due("split() of none", with(4).split(), 0);
-        ShardRows x = with(2, 3, 3, 2, 2, 2);
+        Check.due("split() of none", Rows.with(4).split(), 0);
+        ShardRows x = Rows.with(2, 3, 3, 2, 2, 2);
         Check.due("split()", x.split(), 6);
-        dueShards(x, 0, 0, 1, 1, 1);
-        x = with(2, 0, 10, 3);
+        Rows.dueShards(x, 0, 0, 1, 1, 1);
+        x = Rows.with(2, 0, 10, 3);
         Check.due("split() with the mean", x.split(), 10);
-        dueShards(x, 0, 1, 0);
-        x = with(3, 1, 1, 1, 9);
+        Rows.dueShards(x, 0, 1, 0);
+        x = Rows.with(3, 1, 1, 1, 9);
         Check.due("split() where the first ones share", x.split(), 9);
-        dueShards(x, 0, 0, 0, 1);
-        x = with(2, 5, 1, 5, 1);
+        Rows.dueShards(x, 0, 0, 0, 1);
+        x = Rows.with(2, 5, 1, 5, 1);
         x.join(0, 2);
         Check.due("split() of GROUPS", x.split(), 10);
-        dueShards(x, 0, 1, 0, 1);
-        x = with(4, 100000);
+        Rows.dueShards(x, 0, 1, 0, 1);
+        x = Rows.with(4, 100000);
         for (int i = 1; i < 24; i++) {
             x.test(100000);
             x.join(i, 0);
         }
         Check.due("split() of one GROUP of 24", x.split(), 2400000);
-        x = with(4, 7, 7, 7, 7, 7, 7, 7, 7);
+        x = Rows.with(4, 7, 7, 7, 7, 7, 7, 7, 7);
         Check.due("split() of eight", x.split(), 14);
-        dueShards(x, 0, 0, 1, 1, 2, 2, 3, 3);
+        Rows.dueShards(x, 0, 0, 1, 1, 2, 2, 3, 3);
     }
 
     private static void splitKeepsPlaces() {
         Check.part("promise 8, few, again");
         // All on SHARD 0 but the last; equal TIMES then make any halves as short.
-        ShardRows x = with(2, 1, 1, 8, 10);
+        ShardRows x = Rows.with(2, 1, 1, 8, 10);
         Check.due("split()", x.split(), 10);
-        dueShards(x, 0, 0, 0, 1);
+        Rows.dueShards(x, 0, 0, 0, 1);
         x.time(2, 1);
         x.time(3, 1);
-        Check.due("split()", x.split(), 2);
-        Check.due("moved()", x.moved(), 1);
-        dueShards(x, 0, 0, 1, 1);
+        Rows.dueSplit(x, 2, 1, 0, 0, 1, 1);
         // Fewest MOVED counts TESTS: the GROUP of two stays, the lone ones go.
-        x = with(2, 2, 2, 2, 6);
+        x = Rows.with(2, 2, 2, 2, 6);
         Check.due("split()", x.split(), 6);
-        dueShards(x, 0, 0, 0, 1);
+        Rows.dueShards(x, 0, 0, 0, 1);
         x.join(1, 2);
         x.time(3, 0);
         x.time(0, 4);
-        Check.due("split()", x.split(), 7);
-        dueShards(x, 1, 0, 0, 1);
-        Check.due("moved()", x.moved(), 1);
+        Rows.dueSplit(x, 7, 1, 1, 0, 0, 1);
         // The least LENGTH goes before the fewest MOVED.
-        x = split(1, 3, 3, 3, 3);
+        x = Rows.split(1, 3, 3, 3, 3);
         x.shards(4);
-        Check.due("split()", x.split(), 3);
-        Check.due("moved()", x.moved(), 3);
-        dueShards(x, 0, 1, 2, 3);
+        Rows.dueSplit(x, 3, 3, 0, 1, 2, 3);
         // Whoever has been on a SHARD that is gone is MOVED wherever it goes.
         x.shards(2);
-        Check.due("split()", x.split(), 6);
-        Check.due("moved()", x.moved(), 2);
-        dueShards(x, 0, 1, 0, 1);
+        Rows.dueSplit(x, 6, 2, 0, 1, 0, 1);
     }
 
     private static void splitOfMany() {
         Check.part("promise 8, many");
         // A GROUP of 1 and 1 is taken with the 2s, after them by its FIRST.
-        ShardRows x = with(2, 3, 3, 2, 2, 2, 1, 1, 1, 1, 1);
+        ShardRows x = Rows.with(2, 3, 3, 2, 2, 2, 1, 1, 1, 1, 1);
         x.join(7, 8);
         Check.due("groups()", x.groups(), 9);
         Check.due("split()", x.split(), 9);
-        dueShards(x, 0, 1, 0, 1, 0, 0, 1, 1, 1, 0);
+        Rows.dueShards(x, 0, 1, 0, 1, 0, 0, 1, 1, 1, 0);
         // Ties go to the SHARD that the FIRST had before.
-        x = with(2, 9, 8, 7, 6, 5, 4, 3, 2, 1);
+        x = Rows.with(2, 9, 8, 7, 6, 5, 4, 3, 2, 1);
         Check.due("split()", x.split(), 23);
-        dueShards(x, 0, 1, 1, 0, 0, 1, 1, 0, 0);
+        Rows.dueShards(x, 0, 1, 1, 0, 0, 1, 1, 0, 0);
         for (int i = 0; i < 9; i++) {
             x.time(i, 4);
         }
-        Check.due("split()", x.split(), 20);
-        dueShards(x, 0, 1, 1, 0, 0, 1, 1, 0, 0);
-        Check.due("moved()", x.moved(), 0);
+        Rows.dueSplit(x, 20, 0, 0, 1, 1, 0, 0, 1, 1, 0, 0);
         // The old SHARD counts only if it still is there; if not, the least.
-        x = split(4, 9, 9, 9, 9, 9, 9, 9, 9, 9);
-        dueShards(x, 0, 1, 2, 3, 0, 1, 2, 3, 0);
+        x = Rows.split(4, 9, 9, 9, 9, 9, 9, 9, 9, 9);
+        Rows.dueShards(x, 0, 1, 2, 3, 0, 1, 2, 3, 0);
         x.shards(2);
-        Check.due("split()", x.split(), 45);
-        dueShards(x, 0, 1, 0, 1, 0, 1, 0, 1, 0);
-        Check.due("moved()", x.moved(), 4);
+        Rows.dueSplit(x, 45, 4, 0, 1, 0, 1, 0, 1, 0, 1, 0);
         // SHARD 2 was the last of three and is the first that two do not have.
-        x = split(3, 9, 9, 9, 9, 9, 9, 9, 9, 9, 9);
+        x = Rows.split(3, 9, 9, 9, 9, 9, 9, 9, 9, 9, 9);
         x.shards(2);
         x.time(2, 10);
         Check.due("split()", x.split(), 46);
-        dueShards(x, 1, 1, 0, 0, 1, 0, 1, 0, 1, 0);
-    }
-
-    private static void splitAtTheBorder() {
-        Check.part("promise 8, eight and nine");
-        // The best is 12 (6+3+2+1, and 4+4+4), greedily it is 13 (6+4+2+1).
-        ShardRows x = with(2, 6, 4, 4, 4, 3, 2, 1);
-        Check.due("split() of seven", x.split(), 12);
-        x = with(2, 3, 3, 2, 2, 2);
-        x.test(1);
-        x.test(1);
-        x.test(2);
-        Check.due("split() of eight", x.split(), 8);
-        // Greedily 36 (16 + 10 + 10); the best is 33 (16 + 16 + 1).
-        ShardRows nine = with(2, 16, 16, 10, 10, 10, 1, 1, 1, 1);
-        Check.due("split() of nine", nine.split(), 36);
-        nine.join(5, 6);
-        Check.due("groups()", nine.groups(), 8);
-        Check.due("split() of eight", nine.split(), 33);
-    }
-
-    private static void splitForgetsResults() {
-        Check.part("promise 8, results go");
-        ShardRows x = split(2, 5, 5);
-        x.result(0, 0, 0);
-        x.result(1, 1, 3);
-        x.result(1, 0, 3);
-        Check.due("verdict()", x.verdict(), 2);
-        Check.due("split()", x.split(), 5);
-        Check.due("verdict()", x.verdict(), 0);
-        Check.due("missing(0)", x.missing(0), 0);
-        Check.due("missing(1)", x.missing(1), 1);
-        Check.due("tries(1)", x.tries(1), 0);
-        Check.due("strange()", x.strange(), 0);
-        Check.due("again(1)", x.again(1), false);
-        Check.due("result(1, 1, 0)", x.result(1, 1, 0), 1);
+        Rows.dueShards(x, 1, 1, 0, 0, 1, 0, 1, 0, 1, 0);
     }
 
     private static void shard() {
         Check.part("promise 9");
-        ShardRows x = with(2, 5, 5);
+        ShardRows x = Rows.with(2, 5, 5);
         Check.due("shard(0) before a split", x.shard(0), NONE);
         x.split();
-        dueShards(x, 0, 1);
+        Rows.dueShards(x, 0, 1);
         x.test(5);
         Check.due("shard(2) that came later", x.shard(2), NONE);
         for (int wrong : new int[] {3, -1, 23, 24, LOW, HIGH}) {
@@ -340,14 +262,14 @@ public final class PromisesTest {
         }
         x.shards(1);
         x.join(0, 1);
-        dueShards(x, 0, 1, NONE);
+        Rows.dueShards(x, 0, 1, NONE);
         x.split();
-        dueShards(x, 0, 0, 0);
+        Rows.dueShards(x, 0, 0, 0);
     }
 
     private static void sum() {
         Check.part("promise 10");
-        ShardRows x = with(2, 5, 0, 4);
+        ShardRows x = Rows.with(2, 5, 0, 4);
         Check.due("sum(0) before a split", x.sum(0), NONE);
         x.split();
         Check.due("sum(0)", x.sum(0), 5 + 4);
@@ -366,7 +288,7 @@ public final class PromisesTest {
 
     private static void moved() {
         Check.part("promise 11");
-        ShardRows x = with(4, 6, 6, 6, 6);
+        ShardRows x = Rows.with(4, 6, 6, 6, 6);
         Check.due("moved() before a split", x.moved(), 0);
         x.split();
         Check.due("moved() by the first", x.moved(), 0);
@@ -378,14 +300,14 @@ public final class PromisesTest {
         x.shards(2);
         x.split();
         Check.due("moved(): not those that came later", x.moved(), 1);
-        dueShards(x, 0, 0, 0, 1, 1);
+        Rows.dueShards(x, 0, 0, 0, 1, 1);
         x.split();
         Check.due("moved() by one that moves none", x.moved(), 0);
     }
 
     private static void empty() {
         Check.part("promise 12");
-        ShardRows x = with(4);
+        ShardRows x = Rows.with(4);
         Check.due("empty(0) before a split", x.empty(0), NONE);
         x.split();
         for (int i = 0; i < 4; i++) {
@@ -402,36 +324,19 @@ public final class PromisesTest {
             Check.due("empty(" + wrong + ")", x.empty(wrong), NONE);
         }
         // SHARD 0 is left empty where that moves the fewest.
-        x = split(2, 8, 4, 4);
-        dueShards(x, 0, 1, 1);
+        x = Rows.split(2, 8, 4, 4);
+        Rows.dueShards(x, 0, 1, 1);
         x.join(0, 1);
         x.join(1, 2);
         x.split();
-        dueShards(x, 1, 1, 1);
+        Rows.dueShards(x, 1, 1, 1);
         Check.due("empty(0)", x.empty(0), 0);
         Check.due("empty(1)", x.empty(1), NONE);
     }
 
-    /** DRAWN by the document's words, in whole numbers without a bound. */
-    private static List<Integer> drawnByHand(List<Integer> tests, long seed) {
-        BigInteger whole = BigInteger.ONE.shiftLeft(64);
-        BigInteger factor = new BigInteger("6364136223846793005");
-        BigInteger addend = new BigInteger("1442695040888963407");
-        List<Integer> order = new ArrayList<>(tests);
-        BigInteger x = BigInteger.valueOf(seed).mod(whole);
-        for (int i = order.size() - 1; i >= 1; i--) {
-            x = x.multiply(factor).add(addend).mod(whole);
-            int j = x.shiftRight(33).mod(BigInteger.valueOf(i + 1)).intValue();
-            int held = order.get(i);
-            order.set(i, order.get(j));
-            order.set(j, held);
-        }
-        return order;
-    }
-
     private static void draw() {
         Check.part("promise 13");
-        ShardRows x = with(3);
+        ShardRows x = Rows.with(3);
         Check.due("draw(0, 1) before a split", x.draw(0, 1), NONE);
         x.split();
         Check.due("draw(0, 1) of none", x.draw(0, 1), 0);
@@ -452,9 +357,9 @@ public final class PromisesTest {
             }
             for (long seed : seeds) {
                 Check.due("draw(" + shard + ", " + seed + ")", x.draw(shard, seed), 8);
-                List<Integer> want = drawnByHand(tests, seed);
+                int[] want = Rows.drawnByHand(tests, seed);
                 for (int i = 0; i < 8; i++) {
-                    Check.due("drawn(" + i + ") of seed " + seed, x.drawn(i), want.get(i));
+                    Check.due("drawn(" + i + ") of seed " + seed, x.drawn(i), want[i]);
                 }
             }
         }
@@ -462,23 +367,23 @@ public final class PromisesTest {
 
     private static void drawn() {
         Check.part("promise 14");
-        ShardRows x = with(2, 9, 3, 3, 3);
+        ShardRows x = Rows.with(2, 9, 3, 3, 3);
         Check.due("drawn(0) before a draw", x.drawn(0), NONE);
         x.split();
         Check.due("drawn(0) before a draw", x.drawn(0), NONE);
         x.draw(1, 5);
-        List<Integer> want = drawnByHand(List.of(1, 2, 3), 5);
+        int[] want = Rows.drawnByHand(List.of(1, 2, 3), 5);
         for (int i = 0; i < 3; i++) {
-            Check.due("drawn(" + i + ")", x.drawn(i), want.get(i));
+            Check.due("drawn(" + i + ")", x.drawn(i), want[i]);
         }
         for (int wrong : new int[] {3, 23, 24, -1, LOW, HIGH}) {
             Check.due("drawn(" + wrong + ")", x.drawn(wrong), NONE);
         }
         x.draw(2, 6);
-        Check.due("drawn(0) after a draw that was NONE", x.drawn(0), want.get(0));
+        Check.due("drawn(0) after a draw that was NONE", x.drawn(0), want[0]);
         x.shards(1);
         x.split();
-        Check.due("drawn(2) after a split", x.drawn(2), want.get(2));
+        Check.due("drawn(2) after a split", x.drawn(2), want[2]);
         Check.due("drawn(3) after a split", x.drawn(3), NONE);
         x.shards(4);
         x.join(0, 1);
@@ -491,7 +396,7 @@ public final class PromisesTest {
 
     private static void result() {
         Check.part("promise 15");
-        ShardRows x = with(2, 5, 5);
+        ShardRows x = Rows.with(2, 5, 5);
         Check.due("result(0, 0, 0) before a split", x.result(0, 0, 0), -1);
         x.split();
         x.test(5);
@@ -511,7 +416,7 @@ public final class PromisesTest {
 
     private static void again() {
         Check.part("promise 16");
-        ShardRows x = with(2, 5, 5);
+        ShardRows x = Rows.with(2, 5, 5);
         Check.due("again(0) before a split", x.again(0), false);
         x.split();
         Check.due("again(0) without a RESULT", x.again(0), false);
@@ -532,7 +437,7 @@ public final class PromisesTest {
 
     private static void strange() {
         Check.part("promise 17");
-        ShardRows x = split(2, 5, 5);
+        ShardRows x = Rows.split(2, 5, 5);
         Check.due("strange()", x.strange(), 0);
         for (int i = 1; i <= 40; i++) {
             x.result(0, 1, i);
@@ -550,7 +455,7 @@ public final class PromisesTest {
 
     private static void missing() {
         Check.part("promise 18");
-        ShardRows x = with(2, 5, 5, 5, 5);
+        ShardRows x = Rows.with(2, 5, 5, 5, 5);
         Check.due("missing(0) before a split", x.missing(0), NONE);
         x.split();
         x.test(5);
@@ -592,7 +497,7 @@ public final class PromisesTest {
 
     private static void tries() {
         Check.part("promise 20");
-        ShardRows x = with(2, 5, 5);
+        ShardRows x = Rows.with(2, 5, 5);
         Check.due("tries(0) before a split", x.tries(0), 0);
         x.result(0, 0, 1);
         x.split();
